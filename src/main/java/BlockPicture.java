@@ -425,6 +425,13 @@ public final class BlockPicture {
         private final int[] down = {1, 1, 1};
         private int mostAcross = 1;
         private int mostDown = 1;
+        private int stretchesAcross = 1;
+        private int stretchesDown = 1;
+        /** By layers: how wide and high they are, and how many blocks their GRIDS have across and in all. */
+        private final int[] wide = new int[MOST_LAYERS];
+        private final int[] high = new int[MOST_LAYERS];
+        private final int[] gridWide = new int[MOST_LAYERS];
+        private final int[] blocks = new int[MOST_LAYERS];
         private final int[] levels = new int[MOST_LAYERS * LAYER];
         /** Of each layer the table that it goes by, in the order of THE ROW. */
         private final int[] entries = new int[MOST_LAYERS * BLOCK];
@@ -448,33 +455,24 @@ public final class BlockPicture {
             mostDown = Math.max(mostDown, d);
         }
 
+        /** To be called when all factors are set: sizes depend on the greatest ones. */
+        void measure() {
+            stretchesAcross = upward(width, 8 * mostAcross);
+            stretchesDown = upward(height, 8 * mostDown);
+            for (int layer = 0; layer < layers; layer++) {
+                wide[layer] = upward(width * across[layer], mostAcross);
+                high[layer] = upward(height * down[layer], mostDown);
+                gridWide[layer] = across[layer] * stretchesAcross;
+                blocks[layer] = gridWide[layer] * down[layer] * stretchesDown;
+            }
+        }
+
         private static int upward(int n, int by) {
             return by < 1 ? n : (n + by - 1) / by;
         }
 
-        int wideOf(int layer) {
-            return upward(width * across[layer], mostAcross);
-        }
-
-        int highOf(int layer) {
-            return upward(height * down[layer], mostDown);
-        }
-
-        int stretchesAcross() {
-            return upward(width, 8 * mostAcross);
-        }
-
-        int stretchesDown() {
-            return upward(height, 8 * mostDown);
-        }
-
-        int gridWide(int layer) {
-            return across[layer] * stretchesAcross();
-        }
-
         boolean hasBlock(int layer, int block) {
-            return isWithin(layer, 0, layers - 1)
-                    && isWithin(block, 0, gridWide(layer) * down[layer] * stretchesDown() - 1);
+            return isWithin(layer, 0, layers - 1) && isWithin(block, 0, blocks[layer] - 1);
         }
 
         void draw(Waves waves) {
@@ -482,8 +480,8 @@ public final class BlockPicture {
                 return;
             }
             for (int layer = 0; layer < layers; layer++) {
-                for (int y = 0; y < highOf(layer); y += 8) {
-                    for (int x = 0; x < wideOf(layer); x += 8) {
+                for (int y = 0; y < high[layer]; y += 8) {
+                    for (int x = 0; x < wide[layer]; x += 8) {
                         drawBlock(waves, layer, x, y);
                     }
                 }
@@ -492,7 +490,7 @@ public final class BlockPicture {
         }
 
         private void drawBlock(Waves waves, int layer, int left, int top) {
-            int first = LAYER * layer + BLOCK * (top / 8 * gridWide(layer) + left / 8);
+            int first = LAYER * layer + BLOCK * (top / 8 * gridWide[layer] + left / 8);
             for (int k = 0; k < BLOCK; k++) {
                 waves.weights[SLANTS[k]] = levels[first + k] * entries[BLOCK * layer + k];
             }
@@ -567,18 +565,16 @@ public final class BlockPicture {
         }
 
         private void arrangeAlone(Picture of, int only) {
-            int wide = Picture.upward(of.wideOf(only), 8);
-            int high = Picture.upward(of.highOf(only), 8);
-            for (int row = 0; row < high; row++) {
-                for (int column = 0; column < wide; column++) {
-                    addBlock(only, row * of.gridWide(only) + column);
+            for (int row = 0; 8 * row < of.high[only]; row++) {
+                for (int column = 0; 8 * column < of.wide[only]; column++) {
+                    addBlock(only, row * of.gridWide[only] + column);
                 }
             }
         }
 
         private void arrangeTogether(Picture of) {
-            for (int down = 0; down < of.stretchesDown(); down++) {
-                for (int across = 0; across < of.stretchesAcross(); across++) {
+            for (int down = 0; down < of.stretchesDown; down++) {
+                for (int across = 0; across < of.stretchesAcross; across++) {
                     for (int i = 0; i < layers; i++) {
                         addStretch(of, layer[i], across, down);
                     }
@@ -591,7 +587,7 @@ public final class BlockPicture {
             int top = down * of.down[which];
             for (int j = 0; j < of.down[which]; j++) {
                 for (int i = 0; i < of.across[which]; i++) {
-                    addBlock(which, (top + j) * of.gridWide(which) + left + i);
+                    addBlock(which, (top + j) * of.gridWide[which] + left + i);
                 }
             }
         }
@@ -624,7 +620,7 @@ public final class BlockPicture {
                 firstSymbols[n] = size;
                 code += counts[n];
                 size += counts[n];
-                fit = size <= symbols.length && (counts[n] == 0 || code < 1 << n);
+                fit = size <= symbols.length && code < 1 << n;
                 code *= 2;
             }
             return fit;
@@ -633,7 +629,7 @@ public final class BlockPicture {
         /** The symbol of a code of n bits, or NONE. */
         int symbolOf(int code, int n) {
             int i = code - firstCodes[n];
-            return i >= 0 && i < counts[n] && told ? symbols[firstSymbols[n] + i] : NONE;
+            return i >= 0 && i < counts[n] ? symbols[firstSymbols[n] + i] : NONE;
         }
     }
 
@@ -650,11 +646,6 @@ public final class BlockPicture {
 
         Reader(Row tape) {
             this.tape = tape;
-        }
-
-        void begin() {
-            at = 0;
-            dropBits();
         }
 
         void fail(int fault, int place) {
@@ -679,10 +670,8 @@ public final class BlockPicture {
             return 256 * high + read();
         }
 
+        /** This may go beyond the TAPE's end: more bytes must follow, and the next read() fails then. */
         void skip(int n) {
-            if (n > tape.size - at) {
-                fail(1, tape.size);
-            }
             at += n;
         }
 
@@ -792,7 +781,7 @@ public final class BlockPicture {
         }
 
         private void begin() {
-            reader.begin();
+            reader.at = 0;
             framed = false;
             interval = 0;
             for (int i = 0; i < 4; i++) {
@@ -879,7 +868,6 @@ public final class BlockPicture {
         }
 
         private void readTable() {
-            wantMore();
             int table = readWithin(0, 3);
             for (int k = 0; k < BLOCK; k++) {
                 wantMore();
@@ -889,7 +877,6 @@ public final class BlockPicture {
         }
 
         private void readCodes() {
-            wantMore();
             int kind = readWithin(0, 17);
             if (kind % 16 > 1) {
                 reader.fail(5, reader.at - 1);
@@ -931,6 +918,7 @@ public final class BlockPicture {
             for (int i = 0; i < layers; i++) {
                 readFrameLayer(i);
             }
+            made.measure();
             framed = true;
         }
 
@@ -1021,7 +1009,6 @@ public final class BlockPicture {
                     readBlock(scan.order[scan.perUnit * unit + i]);
                 }
             }
-            reader.dropBits();
         }
 
         private void readAgain(int due) {
@@ -1100,7 +1087,7 @@ public final class BlockPicture {
 
         private final int[] symbols = new int[MOST_SYMBOLS];
         private int count;
-        /** Of each line which things are twos; how often things come is wanted of the latest line alone. */
+        /** Of each line (of the first one none) which things are twos; how often they come is kept of the latest line alone. */
         private final boolean[] twos = new boolean[MOST_BITS * MOST_THINGS];
         private int[] latest = new int[MOST_THINGS];
         private int[] next = new int[MOST_THINGS];
@@ -1110,7 +1097,6 @@ public final class BlockPicture {
             int things = count;
             for (int i = 0; i < count; i++) {
                 latest[i] = own.often[symbols[i]];
-                twos[i] = false;
             }
             for (int line = 1; line < MOST_BITS; line++) {
                 things = makeLine(line, things / 2, own.often);
@@ -1203,6 +1189,7 @@ public final class BlockPicture {
                 int kind = kindOf(layer);
                 scan.addLayer(layer, kind, kind);
             }
+            packed.measure();
             scan.arrange(packed);
             for (int layer = 0; layer < packed.layers; layer++) {
                 makeLayer(canvas, layer);
@@ -1219,8 +1206,8 @@ public final class BlockPicture {
         private void makeLayer(Canvas canvas, int layer) {
             int wide = packed.across[layer] < packed.mostAcross ? 2 : 1;
             int high = packed.down[layer] < packed.mostDown ? 2 : 1;
-            for (int y = 0; y < packed.highOf(layer); y++) {
-                for (int x = 0; x < packed.wideOf(layer); x++) {
+            for (int y = 0; y < packed.high[layer]; y++) {
+                for (int x = 0; x < packed.wide[layer]; x++) {
                     int sum = wide * high / 2;
                     for (int i = 0; i < wide * high; i++) {
                         sum += canvas.kind(layer, Math.min(canvas.width - 1, wide * x + i % wide),
@@ -1233,11 +1220,11 @@ public final class BlockPicture {
 
         private void makeBlock(int block, int[] tables) {
             int layer = block / BLOCKS;
-            int gridWide = Math.max(1, packed.gridWide(layer));
+            int gridWide = Math.max(1, packed.gridWide[layer]);
             int left = block % BLOCKS % gridWide * 8;
             int top = block % BLOCKS / gridWide * 8;
-            int lastX = packed.wideOf(layer) - 1;
-            int lastY = packed.highOf(layer) - 1;
+            int lastX = packed.wide[layer] - 1;
+            int lastY = packed.high[layer] - 1;
             for (int i = 0; i < BLOCK; i++) {
                 int x = Math.min(lastX, left + i % 8);
                 int y = Math.min(lastY, top + i / 8);
@@ -1418,6 +1405,7 @@ public final class BlockPicture {
         }
 
         private void writeBits(int bits, int n) {
+            // Bits that are written already stay in held, above those that count, until they are shifted out of it.
             held = held << n | bits;
             heldBits += n;
             while (heldBits >= 8) {
@@ -1428,7 +1416,6 @@ public final class BlockPicture {
                     out.add(0);
                 }
             }
-            held &= 255;
         }
 
         private void fillByte() {

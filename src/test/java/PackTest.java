@@ -1,4 +1,5 @@
 import java.util.ArrayList;
+import java.util.Arrays;
 import java.util.Collections;
 import java.util.List;
 import java.util.Map;
@@ -21,6 +22,7 @@ public final class PackTest {
         longCodes();
         longRows();
         blackCanvas();
+        colourEdges();
         keepsWhatWasPacked();
         intervals();
         wrongPacks();
@@ -244,6 +246,37 @@ public final class PackTest {
         CHECKS.same("pack of a black canvas", x.pack(1, 1, 0), due.length);
         for (int i = 0; i < due.length; i++) {
             CHECKS.same("out(" + i + ") of a black canvas", x.out(i), due[i]);
+        }
+    }
+
+    /** Colours whose first sample is just below the next whole number (no other one's can be so near), and the greatest ones. */
+    private static void colourEdges() {
+        int found = 0;
+        for (int c = 0; c < 1 << 24 && found < 20; c++) {
+            int sum = 19595 * (c >> 16) + 38470 * (c >> 8 & 255) + 7471 * (c & 255);
+            if ((sum + 32768 & 65535) == 65535) {
+                compareColour(c);
+                found++;
+            }
+        }
+        CHECKS.same("how many edges were found", found, 20);
+        for (int c : new int[] {0xFF0000, 0x00FF00, 0x0000FF, 0xFFFF00, 0x00FFFF, 0xFF00FF, 0xFFFFFF}) {
+            compareColour(c);
+        }
+    }
+
+    private static void compareColour(int c) {
+        BlockPicture x = new BlockPicture();
+        x.canvas(1, 1, 3);
+        x.fill(0, 0, 1, 1, c);
+        x.pack(1, 1, 0);
+        int[] kinds = Plain.kinds(c >> 16, c >> 8 & 255, c & 255);
+        for (int layer = 0; layer < 3; layer++) {
+            int[][] even = new int[8][8];
+            for (int[] row : even) {
+                Arrays.fill(row, kinds[layer]);
+            }
+            CHECKS.same("layer " + layer + " of colour " + c, x.level(0, layer, 0, 0), Plain.weights(even)[0][0]);
         }
     }
 
