@@ -416,7 +416,7 @@ public final class BlockPicture {
         }
     }
 
-    /** A picture as it is told: LAYERS with their factors and the levels of their blocks; samples when they are asked for. */
+    /** A picture as it is told: LAYERS with factors and the levels of their blocks; samples when they are asked for. */
     private static final class Picture {
         private int width = 1;
         private int height = 1;
@@ -633,7 +633,7 @@ public final class BlockPicture {
         }
     }
 
-    /** Reads the TAPE: bytes, MARKS and bits. A FAULT is kept here and thrown, up to unpack(), as an IllegalStateException. */
+    /** Reads the TAPE: bytes, MARKS, bits. A FAULT is kept here, and thrown up to unpack() as an IllegalStateException. */
     private static final class Reader {
         private final Row tape;
         private int at;
@@ -1087,7 +1087,7 @@ public final class BlockPicture {
 
         private final int[] symbols = new int[MOST_SYMBOLS];
         private int count;
-        /** Of each line (of the first one none) which things are twos; how often they come is kept of the latest line alone. */
+        /** Of each line (of the first one none) which things are twos; how often they come only of the latest line. */
         private final boolean[] twos = new boolean[MOST_BITS * MOST_THINGS];
         private int[] latest = new int[MOST_THINGS];
         private int[] next = new int[MOST_THINGS];
