@@ -633,7 +633,10 @@ public final class BlockPicture {
         }
     }
 
-    /** Reads the TAPE: bytes, MARKS, bits. A FAULT is kept here, and thrown up to unpack() as an IllegalStateException. */
+    /**
+     * Reads the TAPE: bytes, MARKS and bits. A FAULT is kept here, and thrown as an IllegalStateException, so that all
+     * reading ends at once; unpack() catches it.
+     */
     private static final class Reader {
         private final Row tape;
         private int at;
