@@ -35,13 +35,13 @@ public final class BlockPicture {
 
     private final Canvas canvas = new Canvas();
     private final int[] tables = new int[2 * BLOCK];
-    private final Row tape = new Row(MOST_TAPE);
-    private final Row out = new Row(MOST_OUT);
-    private final Waves waves = new Waves();
-    /** Null until the first pack(): so it tells also whether anything was packed. */
-    private Packer packer;
-    private Unpacker unpacker;
-    private Picture picture;
+    /** These have all rows that their work needs, at their full lengths: calls make nothing but exceptions. */
+    private final Packer packer = new Packer();
+    private final Unpacker unpacker = new Unpacker();
+    private final Row out = packer.out;
+    private final Waves waves = packer.waves;
+    private final Row tape = unpacker.reader.tape;
+    private Picture picture = new Picture();
     private int place = NONE;
 
     public BlockPicture() {
@@ -98,9 +98,6 @@ public final class BlockPicture {
     public int pack(int across, int down, int interval) throws IllegalArgumentException {
         if (!isWithin(across, 1, 2) || !isWithin(down, 1, 2) || !isWithin(interval, 0, 65535)) {
             throw new IllegalArgumentException("factors are 1 or 2, the INTERVAL 0 .. 65535");
-        }
-        if (packer == null) {
-            packer = new Packer(out, waves);
         }
         packer.makeLevels(canvas, tables, across, down);
         packer.makeCodes(interval);
@@ -161,9 +158,6 @@ public final class BlockPicture {
     }
 
     public int unpack() {
-        if (unpacker == null) {
-            unpacker = new Unpacker(tape);
-        }
         try {
             unpacker.readRow();
         } catch (IllegalStateException e) {
@@ -183,14 +177,14 @@ public final class BlockPicture {
         if (!isWithin(what, 0, 2)) {
             throw new IllegalArgumentException("what is 0 .. 2");
         }
-        if (picture == null) {
+        if (!picture.told) {
             throw new IllegalStateException("there is no picture");
         }
         return what == 0 ? picture.width : what == 1 ? picture.height : picture.layers;
     }
 
     public int sample(int x, int y, int plane) throws IllegalStateException, IndexOutOfBoundsException {
-        if (picture == null) {
+        if (!picture.told) {
             throw new IllegalStateException("there is no picture");
         }
         if (!isWithin(x, 0, picture.width - 1) || !isWithin(y, 0, picture.height - 1)
@@ -206,18 +200,18 @@ public final class BlockPicture {
         if (!isWithin(which, 0, 1)) {
             throw new IllegalArgumentException("which is 0 or 1");
         }
-        Picture told = which == 1 ? picture : packer == null ? null : packer.packed;
-        if (told == null) {
+        Picture asked = which == 1 ? picture : packer.packed;
+        if (!asked.told) {
             throw new IllegalStateException("nothing was packed, or there is no picture");
         }
-        if (!told.hasBlock(layer, block) || !isWithin(k, 0, BLOCK - 1)) {
+        if (!asked.hasBlock(layer, block) || !isWithin(k, 0, BLOCK - 1)) {
             throw new IndexOutOfBoundsException("there is no such level");
         }
-        return told.levels[LAYER * layer + BLOCK * block + k];
+        return asked.levels[LAYER * layer + BLOCK * block + k];
     }
 
     public void take() throws IllegalStateException {
-        if (picture == null) {
+        if (!picture.told) {
             throw new IllegalStateException("there is no picture");
         }
         picture.draw(waves);
@@ -244,14 +238,13 @@ public final class BlockPicture {
         return LAYER * plane + SIDE * y + x;
     }
 
-    /** A row of bytes that grows when it must, so that small ones stay small. */
+    /** A row of bytes, with room for as many as it may ever have. */
     private static final class Row {
-        private final int most;
-        private int[] bytes = new int[512];
+        private final int[] bytes;
         private int size;
 
         Row(int most) {
-            this.most = most;
+            bytes = new int[Math.max(0, most)];
         }
 
         boolean has(int i) {
@@ -259,9 +252,6 @@ public final class BlockPicture {
         }
 
         void add(int value) {
-            if (size == bytes.length && size < most) {
-                bytes = Arrays.copyOf(bytes, Math.min(most, 2 * size));
-            }
             if (size < bytes.length) {
                 bytes[size] = value & 255;
                 size++;
@@ -437,6 +427,8 @@ public final class BlockPicture {
         private final int[] entries = new int[MOST_LAYERS * BLOCK];
         private final int[] samples = new int[MOST_LAYERS * LAYER];
         private boolean drawn;
+        /** Whether it was ever packed or unpacked: else it is only room for one. */
+        private boolean told;
 
         void begin(int width, int height, int layers) {
             this.width = width;
@@ -638,7 +630,7 @@ public final class BlockPicture {
      * reading ends at once; unpack() catches it.
      */
     private static final class Reader {
-        private final Row tape;
+        private final Row tape = new Row(MOST_TAPE);
         private int at;
         private int held;
         private int heldAt;
@@ -646,10 +638,6 @@ public final class BlockPicture {
         private int symbolAt;
         private int fault;
         private int place;
-
-        Reader(Row tape) {
-            this.tape = tape;
-        }
 
         void fail(int fault, int place) {
             this.fault = fault;
@@ -731,7 +719,7 @@ public final class BlockPicture {
 
     /** Reads A PACKED ROW from the TAPE into a picture of its own, which is handed over when all of it was right. */
     private static final class Unpacker {
-        private final Reader reader;
+        private final Reader reader = new Reader();
         private Picture made = new Picture();
         private final Scan scan = new Scan();
         /** In the order of THE ROW, as they are told. */
@@ -748,14 +736,11 @@ public final class BlockPicture {
         private int lengthAt;
         private int length;
 
-        Unpacker(Row tape) {
-            reader = new Reader(tape);
-        }
-
         /** Gives the picture that was read, and keeps the one before it, to be used again. */
         Picture handOver(Picture old) {
             Picture done = made;
-            made = old == null ? new Picture() : old;
+            done.told = true;
+            made = old;
             return done;
         }
 
@@ -1163,8 +1148,8 @@ public final class BlockPicture {
 
     /** PACKING: makes levels of the canvas, and writes them to OUT. */
     private static final class Packer {
-        private final Row out;
-        private final Waves waves;
+        private final Row out = new Row(MOST_OUT);
+        private final Waves waves = new Waves();
         private final Picture packed = new Picture();
         private final Scan scan = new Scan();
         private final Lines lines = new Lines();
@@ -1178,11 +1163,6 @@ public final class BlockPicture {
         private int held;
         private int heldBits;
 
-        Packer(Row out, Waves waves) {
-            this.out = out;
-            this.waves = waves;
-        }
-
         void makeLevels(Canvas canvas, int[] tables, int across, int down) {
             kinds = canvas.planes == 1 ? 1 : 2;
             packed.begin(canvas.width, canvas.height, canvas.planes);
@@ -1193,6 +1173,7 @@ public final class BlockPicture {
                 scan.addLayer(layer, kind, kind);
             }
             packed.measure();
+            packed.told = true;
             scan.arrange(packed);
             for (int layer = 0; layer < packed.layers; layer++) {
                 makeLayer(canvas, layer);
