@@ -23,6 +23,13 @@ public final class FaultTest {
         levelsBeyond();
         marksInData();
         bytesBehind();
+        halvesOfNumbers();
+        marksAtTheEnd();
+        firstOfTwoInFrames();
+        firstOfTwoInScans();
+        firstOfTwoInParts();
+        firstOfTwoInData();
+        firstOfTwoAtTheEnd();
         CHECKS.finish();
     }
 
@@ -419,5 +426,130 @@ public final class FaultTest {
         fault("more bytes behind MARK 217", 8, at, row.many(30, 255));
         row = told().scan(7, 0).bits(Rows.binary(0, 24)).mark(217);
         fault("a row behind a row", 8, at, row.mark(216).mark(217));
+    }
+
+    /** "LENGTHS and numbers of two bytes when both are read": where the second one is missing the TAPE ends too early. */
+    private static void halvesOfNumbers() {
+        for (int half : new int[] {0, 1, 64, 65, 255}) {
+            for (int m : new int[] {219, 196, 192, 221, 224, 239, 254}) {
+                fault("half of a LENGTH of MARK " + m, 1, 5, head().mark(m).add(half));
+            }
+            Rows row = told();
+            fault("half of a LENGTH of a scan", 1, row.size() + 3, row.mark(218).add(half));
+            fault("half of a height", 1, 8, head().mark(192).two(11).add(8, half));
+            fault("half of a width", 1, 10, head().mark(192).two(11).add(8, 0, 64, half));
+            fault("half of an INTERVAL", 1, 7, head().mark(221).two(4).add(half));
+        }
+        fault("a height is looked at before the width is read", 5, 7, head().mark(192).two(11).add(8, 0, 65));
+        fault("a width is looked at before the layers are read", 5, 9, head().mark(192).two(11).add(8, 0, 64, 0, 65));
+    }
+
+    /** A MARK that can't come is told by its m: nothing behind it is looked at. */
+    private static void marksAtTheEnd() {
+        for (int m = 0; m < 255; m++) {
+            if (m != 216) {
+                fault("a first MARK " + m + " at the end", 3, 1, 255, m);
+            }
+            boolean can = m == 192 || m == 196 || m == 219 || m == 221 || m >= 224 && m <= 239 || m == 254;
+            fault("a second MARK " + m + " at the end", can ? 1 : 3, can ? 4 : 3, 255, 216, 255, m);
+            boolean then = can && m != 192 || m == 218;
+            Rows row = told();
+            fault("MARK " + m + " behind the frame, at the end", then ? 1 : 3, row.size() + (then ? 2 : 1), row.mark(m));
+        }
+        fault("a first byte 255 at the end", 1, 1, 255);
+        fault("first bytes 255 at the end", 1, 3, 255, 255, 255);
+        fault("bytes 255 behind MARK 216 at the end", 1, 4, 255, 216, 255, 255);
+        fault("another byte behind a first 255, which is the m", 3, 1, 255, 0, 255, 216);
+    }
+
+    private static void firstOfTwoInFrames() {
+        fault("another byte than 8, height 0", 5, 6, head().mark(192).two(11).add(7, 0, 0, 0, 0, 2));
+        fault("height 0, width 0", 5, 7, head().mark(192).two(11).add(8, 0, 0, 0, 0, 2));
+        fault("width 0, two layers", 5, 9, head().mark(192).two(12).add(8, 0, 1, 0, 0, 2));
+        fault("two layers, a LENGTH of 12", 5, 11, head().mark(192).two(12).add(8, 0, 1, 0, 1, 2));
+        fault("a LENGTH of 12, factors 0", 4, 4, head().mark(192).two(12).add(8, 0, 1, 0, 1, 1, 1, 0, 9));
+        fault("a LENGTH of 12, and no layer is read", 4, 4, head().mark(192).two(12).add(8, 0, 1, 0, 1, 1));
+        fault("factors 0, table 9", 5, 13, head().frame(8, 8, 1, 0, 9));
+        fault("table 9, the same NAME", 5, 14, head().frame(8, 8, 1, 17, 9, 1, 17, 0, 2, 17, 0));
+        fault("the same NAME, factors 0", 5, 15, head().frame(8, 8, 1, 17, 0, 1, 0, 0, 2, 17, 0));
+        fault("factors of the second layer, NAME of the third", 5, 16, head().frame(8, 8, 1, 17, 0, 2, 0x31, 0, 2, 17, 0));
+        fault("a NAME, and the TAPE ends", 5, 15, Arrays.copyOf(head().frame(8, 8, 1, 17, 0, 1, 17, 0, 2, 17, 0).row(), 16));
+        fault("a right NAME, and the TAPE ends", 1, 16, Arrays.copyOf(head().frame(8, 8, 1, 17, 0, 2, 17, 0, 3, 17, 0).row(), 16));
+    }
+
+    private static void firstOfTwoInScans() {
+        int at = told().size() + 4;
+        fault("two layers of one, a LENGTH of 9", 5, at, told().mark(218).two(9).add(2, 8, 9, 0, 63, 0));
+        fault("a LENGTH of 9, another NAME", 4, at - 2, told().mark(218).two(9).add(1, 8, 9, 0, 63, 0));
+        fault("a LENGTH of 9, and no NAME is read", 4, at - 2, told().mark(218).two(9).add(1));
+        fault("another NAME, codes 9", 5, at + 1, told().scan(8, 9));
+        fault("codes 9, then 1, 63, 0", 5, at + 2, told().mark(218).two(8).add(1, 7, 9, 1, 63, 0));
+        fault("1, 62, 1", 5, at + 3, told().mark(218).two(8).add(1, 7, 0, 1, 62, 1));
+        fault("0, 62, 1", 5, at + 4, told().mark(218).two(8).add(1, 7, 0, 0, 62, 1));
+        int bare = head().frame(8, 8, 7, 17, 2).size() + 4;
+        fault("another NAME, no table", 5, bare + 1, head().frame(8, 8, 7, 17, 2).scan(8, 0));
+        fault("no table, and the TAPE ends behind the NAME", 6, bare + 1, head().frame(8, 8, 7, 17, 2).mark(218).two(8).add(1, 7));
+        fault("no table, codes 9", 6, bare + 1, head().frame(8, 8, 7, 17, 2).scan(7, 9));
+        int tabled = head().table(2, 1).frame(8, 8, 7, 17, 2).size() + 4;
+        fault("codes 34, none of them told", 5, tabled + 2, head().table(2, 1).frame(8, 8, 7, 17, 2).scan(7, 34));
+        fault("no codes, then 1, 63, 0", 6, tabled + 2, head().table(2, 1).frame(8, 8, 7, 17, 2).mark(218).two(8).add(1, 7, 0, 1, 63, 0));
+        fault("no codes, and the TAPE ends", 6, tabled + 2, head().table(2, 1).frame(8, 8, 7, 17, 2).mark(218).two(8).add(1, 7, 0));
+        int great = three(34, 34, 34).size() + 4;
+        fault("no codes of the third layer, 12 blocks", 6, great + 6, three(34, 34, 34).scan(1, 0, 2, 0, 3, 17));
+        fault("codes 2 of the third layer, 12 blocks", 5, great + 6, three(34, 34, 34).scan(1, 0, 2, 0, 3, 2));
+        fault("12 blocks, and the TAPE ends", 6, great, three(34, 34, 34).scan(1, 0, 2, 0, 3, 0));
+        fault("12 blocks, and a MARK instead of DATA", 6, great, three(34, 34, 34).scan(1, 0, 2, 0, 3, 0).mark(217));
+    }
+
+    private static void firstOfTwoInParts() {
+        fault("table 4 in a LENGTH of 3", 5, 6, head().mark(219).two(3).add(4, 0));
+        fault("a LENGTH of 3, entry 0", 4, 4, head().mark(219).two(3).add(3, 0));
+        fault("entry 0 as the last one of a LENGTH of 40", 5, 42 + 1, head().mark(219).two(40).add(3).many(36, 1).add(0, 1));
+        fault("entry 0 behind a LENGTH of 40", 4, 4, head().mark(219).two(40).add(3).many(37, 1).add(0, 1));
+        fault("the TAPE ends within a LENGTH that is too short", 1, 20, head().mark(219).two(40).add(3).many(13, 1));
+        fault("codes 2 in a LENGTH of 3", 5, 6, head().mark(196).two(3).add(2, 255));
+        fault("a LENGTH of 3, codes too many", 4, 4, head().mark(196).two(3).add(1).many(16, 255));
+        fault("codes too many, a wrong symbol", 5, 7, head().mark(196).two(21).add(1, 2).many(15, 0).add(99, 99));
+        fault("codes too many, and the TAPE ends", 5, 7, head().mark(196).two(21).add(1, 2).many(15, 0));
+        fault("a wrong symbol, then the LENGTH ends", 5, 23, head().mark(196).two(20).add(1, 0, 3).many(14, 0).add(12, 1, 2));
+        fault("the LENGTH ends, then a wrong symbol", 4, 4, head().mark(196).two(20).add(1, 0, 3).many(14, 0).add(1, 12, 2));
+        fault("a wrong symbol, and the TAPE ends", 5, 23, head().mark(196).two(22).add(1, 0, 3).many(14, 0).add(12));
+        fault("right symbols, and the TAPE ends", 1, 24, head().mark(196).two(22).add(1, 0, 3).many(14, 0).add(11));
+        fault("the second table's number", 5, 71, head().mark(219).two(132).add(0).many(64, 1).add(4).many(64, 0));
+        fault("the second code's number", 5, 24, head().mark(196).two(60).add(0, 1).many(15, 0).add(0).add(18).many(16, 255));
+        fault("an INTERVAL of LENGTH 5 is not read", 4, 4, head().mark(221).two(5).add(0, 1, 2).mark(217));
+        fault("an INTERVAL is read to its end", 2, 8, head().mark(221).two(4).add(0, 1, 2).mark(217));
+    }
+
+    private static void firstOfTwoInData() {
+        Rows row = told().scan(7, 0);
+        fault("eleven bits without a code, and a MARK", 7, row.size() + 2, row.start(1).bits("111" + "11110000").mark(217));
+        row = told().scan(7, 0);
+        fault("sixteen bits without a code, and a MARK", 7, row.size(), row.bits("1100" + "0".repeat(12)).mark(217));
+        row = told().scan(7, 0);
+        fault("sixteen bits without a code, and the TAPE ends", 7, row.size(), row.bits("1100" + "0".repeat(12)));
+        row = upTo(63);
+        fault("level 64, whose number's bits are a MARK", 7, row.size(), row.restSymbol(17).fillByte('0').mark(217));
+        row = told().scan(7, 0).start(2047).restSymbol(0);
+        fault("level 2048, then a MARK", 7, row.size(), row.start(1).fillByte('0').mark(217));
+        row = told().interval(1).scan(7, 0).bits(Rows.binary(0, 12)).fillByte('1');
+        fault("another MARK than 208, which could not come at all", 3, row.size() + 1, row.mark(0).mark(208));
+        row = told().interval(1).scan(7, 0).bits(Rows.binary(0, 12)).fillByte('1');
+        fault("the TAPE ends where MARK 208 is due", 1, row.size(), row);
+        row = told().interval(1).scan(7, 0).bits(Rows.binary(0, 12)).fillByte('1');
+        fault("the TAPE ends within MARK 208", 1, row.size() + 1, row.add(255));
+    }
+
+    private static void firstOfTwoAtTheEnd() {
+        Rows row = told();
+        fault("MARK 217 too early, and bytes behind it", 3, row.size() + 1, row.mark(217).add(1, 2, 3));
+        row = told().scan(7, 0).bits(Rows.binary(0, 24));
+        fault("MARK 217, and 255 behind it", 8, row.size() + 2, row.mark(217).add(255));
+        row = told().scan(7, 0).bits(Rows.binary(0, 24));
+        fault("MARK 217, and MARK 217 behind it", 8, row.size() + 2, row.mark(217).mark(217));
+        row = told().scan(7, 0).bits(Rows.binary(0, 24));
+        fault("nothing behind DATA", 1, row.size(), row);
+        row = told().scan(7, 0).bits(Rows.binary(0, 24));
+        fault("a byte 255 behind DATA", 1, row.size() + 1, row.add(255));
     }
 }

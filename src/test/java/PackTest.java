@@ -21,6 +21,7 @@ public final class PackTest {
         noises();
         longCodes();
         longRows();
+        manySymbols();
         blackCanvas();
         colourEdges();
         keepsWhatWasPacked();
@@ -235,6 +236,62 @@ public final class PackTest {
         }
         row.mark(217).type(x);
         CHECKS.same("unpack of wild blocks", x.unpack(), 0);
+        x.take();
+    }
+
+    /** More symbols than half of all that there could be, each of them once or a few times. */
+    private static void manySymbols() {
+        compare(PackTest::takeMany, new int[] {64, 64, 1}, new int[] {1, 1, 0}, new int[] {3, 0, 1, 0});
+        BlockPicture x = Checks.with(PackTest::takeMany);
+        x.scale(0, 3, 0);
+        x.pack(1, 1, 0);
+        int startsAt = 2 + 69 + 13 + 4;
+        int starts = 0;
+        for (int n = 1; n <= 16; n++) {
+            starts += x.out(startsAt + n);
+        }
+        int restsAt = startsAt + 17 + starts;
+        CHECKS.same("where the code for rests stands", x.out(restsAt), 16);
+        int rests = 0;
+        for (int n = 1; n <= 16; n++) {
+            rests += x.out(restsAt + n);
+        }
+        CHECKS.isTrue("there are many symbols: " + rests, rests > 128);
+    }
+
+    /** Takes a picture of waves so few in each block that its samples stay within 0 .. 255: their levels come back by entries 3. */
+    private static void takeMany(BlockPicture x) {
+        List<int[]> symbols = new ArrayList<>();
+        for (int n = 8; n >= 1; n--) {
+            for (int j = 0; j < 16; j++) {
+                symbols.add(new int[] {j, n});
+            }
+        }
+        Rows row = new Rows().mark(216).table(0, 3).starts(0).rests(0).frame(64, 64, 1, 17, 0).scan(1, 0);
+        for (int block = 0; block < 64; block++) {
+            int[] levels = new int[64];
+            int room = 122;
+            int k = 1;
+            for (int i = 0; i < symbols.size(); i++) {
+                int[] symbol = symbols.get(i);
+                // A little more than the least level of so many bits: it may come back as one less.
+                int level = (1 << symbol[1] - 1) + (symbol[1] > 2 ? 1 : 0);
+                if (k + symbol[0] < 64 && 3 * level / 4 + 1 <= room) {
+                    k += symbol[0];
+                    levels[k] = block % 2 == 0 ? level : -level;
+                    k++;
+                    room -= 3 * level / 4 + 1;
+                    symbols.remove(i);
+                    i--;
+                }
+            }
+            // Blocks that are left over have long runs.
+            levels[63] = k == 1 ? 7 : levels[63];
+            row.block(0, levels);
+        }
+        CHECKS.same("symbols that found no room", symbols.size(), 0);
+        row.fillByte('1').mark(217).type(x);
+        CHECKS.same("unpack of many symbols", x.unpack(), 0);
         x.take();
     }
 
