@@ -11,6 +11,7 @@ public final class CanvasTest {
         fills();
         wrongRectangles();
         slopes();
+        slopesOfEachWidth();
         wrongSamples();
         CHECKS.finish();
     }
@@ -118,6 +119,25 @@ public final class CanvasTest {
         CHECKS.same("10 less 6", x.at(2, 0, 0), 4);
         x.slope(2, 0, 1, 1, 0xAB05, 0xCD09);
         CHECKS.same("of one column the first byte", x.at(2, 0, 0), 5);
+    }
+
+    /** "p + (q - p) * i / wide (cut off)": rising, falling, even, by one, and from and to the bounds, of each width. */
+    private static void slopesOfEachWidth() {
+        int[][] pairs = {{0, 255}, {255, 0}, {0, 1}, {1, 0}, {254, 255}, {255, 254}, {77, 77}, {0, 0}, {255, 255}, {200, 3}, {3, 200}};
+        for (int wide = 1; wide <= 64; wide++) {
+            for (int[] p : pairs) {
+                BlockPicture x = new BlockPicture();
+                x.canvas(64, 2, 1);
+                x.slope(64 - wide, 1, wide, 1, p[0], p[1]);
+                for (int i = 0; i < 64; i++) {
+                    int column = i - (64 - wide);
+                    int part = Math.abs(p[1] - p[0]) * column / wide;
+                    int due = column < 0 ? 0 : p[1] < p[0] ? p[0] - part : p[0] + part;
+                    CHECKS.same("column " + column + " of " + wide, x.at(i, 1, 0), due);
+                    CHECKS.same("above it", x.at(i, 0, 0), 0);
+                }
+            }
+        }
     }
 
     private static void wrongSamples() {
