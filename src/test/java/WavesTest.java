@@ -14,6 +14,7 @@ public final class WavesTest {
         halves();
         theRow();
         firstLevelsToSamples();
+        weightsOfOneRow();
         floorsOfSamples();
         kindsByHand();
         floorsOfKinds();
@@ -212,6 +213,30 @@ public final class WavesTest {
             }
         }
         CHECKS.isTrue("-1, 0, 255 and 256 were seen", seen[0] && seen[1] && seen[2] && seen[3]);
+    }
+
+    /** Weights that are all alike in one row or one column, and 0 elsewhere. */
+    private static void weightsOfOneRow() {
+        int[] ones = new int[64];
+        Arrays.fill(ones, 1);
+        for (int i = 0; i < 16; i++) {
+            for (int weight : new int[] {1, -1, 2, -2, 40, -40}) {
+                int[] levels = new int[64];
+                for (int k = 0; k < 64; k++) {
+                    levels[k] = Plain.slants().get(k)[i / 8] == i % 8 ? weight : 0;
+                }
+                BlockPicture x = new BlockPicture();
+                new Rows().mark(216).table(0, 1).starts(0).rests(0).frame(8, 8, 1, 17, 0).scan(1, 0).block(0, levels).fillByte('1')
+                        .mark(217).type(x);
+                CHECKS.same("unpack()", x.unpack(), 0);
+                Plain due = new Plain(8, 8, new int[][] {{1, 1}});
+                due.levels[0][0] = levels;
+                int[][][] samples = due.show(new int[][] {ones});
+                for (int j = 0; j < 64; j++) {
+                    CHECKS.same("a sample of weights " + weight, x.sample(j % 8, j / 8, 0), samples[0][j / 8][j % 8]);
+                }
+            }
+        }
     }
 
     /** Levels some sum of which is just at, or just below, what FLOOR takes for the next sample. */
