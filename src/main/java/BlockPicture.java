@@ -1135,10 +1135,11 @@ public final class BlockPicture {
         /** Takes the first things of a line: its symbols get a bit more; answers how many are twos. */
         private int takeThings(int line, int taken, int[] lengths) {
             int pairs = 0;
-            for (int i = 0; i < taken; i++) {
+            // No line is longer or has more symbols: looked at only so that no index can go beyond.
+            for (int i = 0; i < taken && i < MOST_THINGS; i++) {
                 if (twos[MOST_THINGS * line + i]) {
                     pairs++;
-                } else {
+                } else if (i - pairs < count) {
                     lengths[symbols[i - pairs]]++;
                 }
             }
@@ -1379,6 +1380,10 @@ public final class BlockPicture {
 
         /** Writes a symbol, and behind it the number of as many bits as the symbol tells. */
         private void writeSymbol(OwnCodes own, int symbol, int number) {
+            // No weight is so great that its symbol would be: looked at only so that no index can go beyond.
+            if (!isWithin(symbol, 0, OwnCodes.NEVER - 1)) {
+                return;
+            }
             if (counting) {
                 own.often[symbol]++;
                 return;
